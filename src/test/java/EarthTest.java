@@ -44,7 +44,7 @@ public final class EarthTest {
     }
 
     /** By a byte at a time: another way than the orbiter's. */
-    private static int checkOf(int... frame) {
+    static int checkOf(int... frame) {
         int row = 65535;
         for (int i = 0; i < 30; i++) {
             int t = (row >> 8 ^ frame[i]) & 255;
@@ -123,7 +123,8 @@ public final class EarthTest {
         Lander.give(x, Lander.expedited(Lander.join(Lander.packet(10, 43), Lander.packet(12, 7))));
         x.send(0);
         x.send(0);
-        frameIs("one begins at 21", x, 0, 4, 21, Lander.join(Lander.part(Lander.packet(10, 43), 22, 43), Lander.row(8)));
+        int[] rest = Lander.part(Lander.packet(10, 43), 22, 43);
+        frameIs("one begins at 21", x, 0, 4, 21, Lander.join(rest, Lander.row(8)));
     }
 
     private static void channelsAreApart() {

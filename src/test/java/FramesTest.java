@@ -74,6 +74,8 @@ public final class FramesTest {
         RelayOrbiter x = new RelayOrbiter();
         int[] far = Lander.frame(0, 0, 0, new int[256 + 2]);
         Due.equal("bits 2 .. 0 of byte 2 are of the length", Lander.give(x, far), 0);
+        RelayOrbiter z = new RelayOrbiter();
+        Due.equal("they are not left out", Lander.give(z, Lander.sealed(144, 77, 1, 6, 0, 1, 0)), 0);
         RelayOrbiter y = new RelayOrbiter();
         Due.equal("bits 6 .. 3 of byte 2 are any", Lander.give(y, Lander.sealed(144, 77, 120, 6, 9, 1, 9)), 1);
         Due.equal("report", y.report(), 0x8000);

@@ -17,6 +17,7 @@ public final class SegmentsTest {
         refusedWhole();
         expeditedWithoutRoom();
         notInTurn();
+        otherForms();
         Due.end();
     }
 
@@ -225,5 +226,16 @@ public final class SegmentsTest {
         segment(x, 0, Lander.FIRST, Lander.part(PACKET, 0, 20));
         segment(x, 1, Lander.LAST, Lander.part(PACKET, 30, 60));
         Due.equal("frames out of turn change no stream", x.store(0), 1);
+    }
+
+    private static void otherForms() {
+        for (int form = 2; form < 4; form++) {
+            RelayOrbiter x = Lander.hailed();
+            int[] data = Lander.join(Lander.row(Lander.WHOLE), Lander.packet(1, 7));
+            Lander.give(x, Lander.frame(form << 2, 0, 0, data));
+            Lander.give(x, Lander.frame(Lander.EXPEDITED | form << 2, 0, 0, data));
+            Due.equal("as without data, form " + form, x.store(0), 0);
+            Due.equal("report, form " + form, x.report(), 0x8101);
+        }
     }
 }
