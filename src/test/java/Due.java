@@ -7,15 +7,40 @@ final class Due {
 
     private static int checks = 0;
     private static int wrong = 0;
+    private static String name = "";
 
     private Due() {
+    }
+
+    /** Runs a test whose wrong answers are printed under a name; it has to look at one answer at least. */
+    static void underName(String testName, Call test) {
+        name = testName + " | ";
+        int before = checks;
+        try {
+            test.make();
+        } catch (RuntimeException e) {
+            printWrong("ended by " + e);
+        }
+        isTrue("some answer is looked at", checks > before);
+        name = "";
+    }
+
+    private static void printWrong(String text) {
+        wrong++;
+        System.out.println(name + text);
     }
 
     static void equal(String what, long got, long want) {
         checks++;
         if (got != want) {
-            wrong++;
-            System.out.println(what + " answered " + got + ", due is " + want);
+            printWrong(what + " answered " + got + ", due is " + want);
+        }
+    }
+
+    static void same(String what, String got, String want) {
+        checks++;
+        if (!got.equals(want)) {
+            printWrong(what + " answered " + got + ", due is " + want);
         }
     }
 
@@ -37,9 +62,15 @@ final class Due {
             got = e.getClass().getName();
         }
         if (!got.equals(want.getName())) {
-            wrong++;
-            System.out.println(what + " threw " + got + ", due is " + want.getName());
+            printWrong(what + " threw " + got + ", due is " + want.getName());
         }
+    }
+
+    /** Refused, and nothing that can be asked is changed by it. */
+    static void refused(String what, Class<? extends RuntimeException> want, Craft x, Call call) {
+        String before = x.look();
+        throwing(what, want, call);
+        same("what there is behind the refused " + what, x.look(), before);
     }
 
     static void unsupported(String what, Call call) {

@@ -14,7 +14,7 @@ public final class EarthTest {
     }
 
     private static void noFrameYet() {
-        RelayOrbiter x = new RelayOrbiter();
+        Craft x = new Craft();
         Due.badIndex("sent(0) before any frame", () -> x.sent(0));
         x.send(1);
         Due.badIndex("sent(-1)", () -> x.sent(-1));
@@ -23,7 +23,7 @@ public final class EarthTest {
     }
 
     /** All 32 bytes, told by channel, count, pointer and the zone's beginning; the rest is fill. */
-    private static void frameIs(String what, RelayOrbiter x, int channel, int count, int pointer, int... zone) {
+    private static void frameIs(String what, Craft x, int channel, int count, int pointer, int... zone) {
         int[] want = new int[32];
         want[0] = 83;
         want[1] = 64 + channel;
@@ -55,7 +55,7 @@ public final class EarthTest {
     }
 
     private static void emptyFrames() {
-        RelayOrbiter x = new RelayOrbiter();
+        Craft x = new Craft();
         Due.equal("first count", x.send(0), 0);
         frameIs("empty", x, 0, 0, 2046);
         Due.equal("its check, as it was told, 30", x.sent(30), 51);
@@ -69,7 +69,7 @@ public final class EarthTest {
 
     private static void onePacket() {
         int[] p = Lander.packet(1000, 50);
-        RelayOrbiter x = Lander.hailed();
+        Craft x = Lander.hailed();
         Lander.give(x, Lander.expedited(p));
         x.send(0);
         frameIs("its beginning", x, 0, 0, 0, Lander.part(p, 0, 22));
@@ -90,7 +90,7 @@ public final class EarthTest {
         int[] b = Lander.packet(4, 7);
         int[] c = Lander.packet(6, 36);
         int[] d = Lander.packet(8, 22);
-        RelayOrbiter x = Lander.hailed();
+        Craft x = Lander.hailed();
         Lander.give(x, Lander.expedited(Lander.join(a, b)));
         Lander.give(x, Lander.expedited(Lander.join(c, d)));
         int[] all = Lander.join(a, b, c, d);
@@ -109,7 +109,7 @@ public final class EarthTest {
     }
 
     private static void atTheZonesEdges(int... d) {
-        RelayOrbiter x = Lander.hailed();
+        Craft x = Lander.hailed();
         Lander.give(x, Lander.expedited(Lander.join(d, Lander.packet(4, 21))));
         x.send(0);
         frameIs("just a zone", x, 0, 0, 0, d);
@@ -130,7 +130,7 @@ public final class EarthTest {
     private static void channelsAreApart() {
         int[] even = Lander.packet(2046, 25);
         int[] odd = Lander.packet(2047, 25);
-        RelayOrbiter x = Lander.hailed();
+        Craft x = Lander.hailed();
         Lander.give(x, Lander.expedited(Lander.join(odd, even)));
         Lander.give(x, Lander.expedited(Lander.join(even, odd)));
         x.send(0);
@@ -150,7 +150,7 @@ public final class EarthTest {
     }
 
     private static void droppedBehindTheFrame() {
-        RelayOrbiter x = Lander.hailed();
+        Craft x = Lander.hailed();
         int[] p = Lander.packet(2, 7);
         Lander.give(x, Lander.expedited(Lander.join(p, p, p, p)));
         Due.equal("writes", x.store(3), 8);
@@ -163,7 +163,7 @@ public final class EarthTest {
     }
 
     private static void countsGoOn() {
-        RelayOrbiter x = new RelayOrbiter();
+        Craft x = new Craft();
         for (int k = 0; k < 300; k++) {
             Due.equal("count", x.send(1), k);
         }
@@ -175,7 +175,7 @@ public final class EarthTest {
     }
 
     private static void powerFailsAtADrop() {
-        RelayOrbiter x = Lander.hailed();
+        Craft x = Lander.hailed();
         int[] p = Lander.packet(2, 7);
         Lander.give(x, Lander.expedited(Lander.join(p, p, p, p)));
         x.fail(2);
@@ -194,7 +194,7 @@ public final class EarthTest {
     }
 
     private static void wrongCalls() {
-        RelayOrbiter x = Lander.hailed();
+        Craft x = Lander.hailed();
         x.window(1, 0, 2, 1);
         Due.badArgument("send(2)", () -> x.send(2));
         Due.badArgument("send(-1)", () -> x.send(-1));

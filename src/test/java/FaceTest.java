@@ -7,11 +7,24 @@ import java.util.TreeSet;
 
 /** The public face: all that the document names, and nothing else. */
 public final class FaceTest {
+    private static final String OUT = "UnsupportedOperationException";
+    private static final String ARGUMENT = "IllegalArgumentException";
+    private static final String STATE = "IllegalStateException";
+    private static final String INDEX = "IndexOutOfBoundsException";
     private static final Set<String> WANT = Set.of(
-        "public void window(int,int,int,int)", "public int minute(int)", "public boolean seen(int)",
-        "public int receive(int,int)", "public int report()", "public int send(int)", "public int sent(int)",
-        "public void fail(int)", "public int power()", "public boolean out()", "public int store(int)",
-        "public int packet(int,int)", "public int content(int,int)");
+        "public void window(int,int,int,int) throws " + ARGUMENT,
+        "public int minute(int) throws " + ARGUMENT,
+        "public boolean seen(int) throws " + ARGUMENT,
+        "public int receive(int,int) throws " + OUT + "," + ARGUMENT,
+        "public int report() throws " + OUT,
+        "public int send(int) throws " + OUT + "," + ARGUMENT + "," + STATE,
+        "public int sent(int) throws " + INDEX,
+        "public void fail(int) throws " + OUT + "," + ARGUMENT,
+        "public int power()",
+        "public boolean out()",
+        "public int store(int) throws " + ARGUMENT,
+        "public int packet(int,int) throws " + INDEX + "," + ARGUMENT,
+        "public int content(int,int) throws " + INDEX);
 
     public static void main(String[] args) {
         Set<String> got = new TreeSet<>();
@@ -22,7 +35,7 @@ public final class FaceTest {
                 privateNames.add(m.getName());
             } else {
                 publicNames.add(m.getName());
-                got.add(m.toString().replace("RelayOrbiter.", "").replaceAll(" throws .*", ""));
+                got.add(m.toString().replace("RelayOrbiter.", "").replace("java.lang.", ""));
             }
         }
         Due.isTrue("methods " + got, got.equals(WANT));

@@ -16,7 +16,7 @@ public final class FramesTest {
     }
 
     private static void bytesOfAWord() {
-        RelayOrbiter x = new RelayOrbiter();
+        Craft x = new Craft();
         int[] b = Lander.hail(1);
         Due.equal("frame of 7 has 14 bytes", b.length, 14);
         x.receive(0x55AA0000 | b[0] << 8 | b[1], 2);
@@ -30,19 +30,19 @@ public final class FramesTest {
 
     private static void oneByOneAndInWords() {
         int[] two = Lander.join(Lander.hail(0), Lander.sequenced(0, Lander.packet(5, 9)));
-        RelayOrbiter x = new RelayOrbiter();
+        Craft x = new Craft();
         Due.equal("two frames one by one", Lander.giveOneByOne(x, two), 2);
         Due.equal("their report", x.report(), 0x8001);
-        RelayOrbiter y = new RelayOrbiter();
+        Craft y = new Craft();
         Due.equal("two frames in words", Lander.give(y, two), 2);
         Due.equal("their report", y.report(), 0x8001);
-        RelayOrbiter z = new RelayOrbiter();
+        Craft z = new Craft();
         int[] shortest = Lander.sealed(128, 77, 0, 4, 0);
         Due.equal("frames of 5 bytes", Lander.give(z, Lander.join(shortest, shortest)), 2);
     }
 
     private static void noiseAround() {
-        RelayOrbiter x = new RelayOrbiter();
+        Craft x = new Craft();
         int[] noise = {250, 0, 243, 32, 250, 243, 31, 250};
         Due.equal("a frame in noise", Lander.give(x, Lander.join(noise, Lander.hail(0), noise)), 1);
         Due.equal("the beginning of a mark waits", Lander.give(x, 243, 32, 1), 0);
@@ -52,7 +52,7 @@ public final class FramesTest {
 
     private static void wrongFirstBits() {
         for (int bits = 0; bits < 4; bits++) {
-            RelayOrbiter x = new RelayOrbiter();
+            Craft x = new Craft();
             int[] frame = Lander.sealed(bits << 6 | 16, 77, 0, 6, 0, 1, 0);
             Due.equal("bits 7, 6 are " + bits, Lander.give(x, frame), bits == 2 ? 1 : 0);
             Due.equal("report then", x.report(), bits == 2 ? 0x8000 : 0);
@@ -61,22 +61,22 @@ public final class FramesTest {
 
     private static void lengths() {
         for (int length = 5; length <= 66; length++) {
-            RelayOrbiter x = new RelayOrbiter();
+            Craft x = new Craft();
             int[] frame = Lander.frame(0, 0, 0, new int[length - 5]);
             Due.equal("a frame of " + length, Lander.give(x, frame), length <= 64 ? 1 : 0);
         }
         for (int length = 1; length < 5; length++) {
-            RelayOrbiter x = new RelayOrbiter();
+            Craft x = new Craft();
             int[] head = {128, 77, 0, length - 1};
             int[] frame = Lander.sealed(Lander.part(head, 0, Math.min(4, length)));
             Due.equal("a frame of " + length, Lander.give(x, Lander.join(frame, new int[8])), 0);
         }
-        RelayOrbiter x = new RelayOrbiter();
+        Craft x = new Craft();
         int[] far = Lander.frame(0, 0, 0, new int[256 + 2]);
         Due.equal("bits 2 .. 0 of byte 2 are of the length", Lander.give(x, far), 0);
-        RelayOrbiter z = new RelayOrbiter();
+        Craft z = new Craft();
         Due.equal("they are not left out", Lander.give(z, Lander.sealed(144, 77, 1, 6, 0, 1, 0)), 0);
-        RelayOrbiter y = new RelayOrbiter();
+        Craft y = new Craft();
         Due.equal("bits 6 .. 3 of byte 2 are any", Lander.give(y, Lander.sealed(144, 77, 120, 6, 9, 1, 9)), 1);
         Due.equal("report", y.report(), 0x8000);
     }
@@ -87,7 +87,7 @@ public final class FramesTest {
             for (int bit = 0; bit < 8; bit++) {
                 int[] bad = good.clone();
                 bad[k] ^= 1 << bit;
-                RelayOrbiter x = new RelayOrbiter();
+                Craft x = new Craft();
                 Due.equal("byte " + k + " with bit " + bit + " turned", Lander.give(x, bad), 0);
             }
         }
@@ -96,31 +96,31 @@ public final class FramesTest {
     private static void framesInsideOfNone() {
         int[] inner = Lander.join(Lander.hail(1), Lander.frame(0, 1, 0), Lander.frame(32, 1, 0));
         int[] outer = Lander.frame(0, 0, 0, Lander.join(inner, row(4)));
-        RelayOrbiter whole = new RelayOrbiter();
+        Craft whole = new Craft();
         Due.equal("a frame that holds frames is one", Lander.give(whole, outer), 1);
         outer[outer.length - 1] ^= 1;
-        RelayOrbiter x = new RelayOrbiter();
+        Craft x = new Craft();
         Due.equal("before its last byte", Lander.giveOneByOne(x, Lander.part(outer, 0, outer.length - 1)), 0);
         Due.equal("its check fails: those inside, at once", x.receive(outer[outer.length - 1], 1), 3);
         Due.equal("report", x.report(), 0x9101);
     }
 
     private static void marksThatOverlap() {
-        RelayOrbiter x = new RelayOrbiter();
+        Craft x = new Craft();
         Due.equal("250 250 243 32", Lander.give(x, Lander.join(row(250), Lander.hail(0))), 1);
-        RelayOrbiter y = new RelayOrbiter();
+        Craft y = new Craft();
         Due.equal("a mark that no frame follows", Lander.give(y, Lander.join(row(250, 243, 32), Lander.hail(0))), 1);
-        RelayOrbiter z = new RelayOrbiter();
+        Craft z = new Craft();
         int[] begun = {250, 243, 32, 128, 77, 7, 255};
         Due.equal("a length too great", Lander.give(z, Lander.join(begun, Lander.hail(0))), 1);
-        RelayOrbiter w = new RelayOrbiter();
+        Craft w = new Craft();
         int[] cut = {250, 243, 32, 128, 77, 0, 14, 0};
         Due.equal("a frame that was cut off", Lander.give(w, Lander.join(cut, Lander.hail(0))), 1);
         Due.equal("report", w.report(), 0x8000);
     }
 
     private static void takenWhileNotSeen() {
-        RelayOrbiter x = new RelayOrbiter();
+        Craft x = new Craft();
         x.window(0, 0, 2, 1);
         x.minute(1);
         Due.equal("taken though not seen", Lander.give(x, Lander.hail(0)), 1);
@@ -143,18 +143,18 @@ public final class FramesTest {
     private static void otherSpacecraft() {
         int[] others = {0, 76, 78, 77 + 256, 77 + 512, 77 + 768, 1023};
         for (int other : others) {
-            RelayOrbiter x = new RelayOrbiter();
+            Craft x = new Craft();
             Due.equal("taken for " + other, Lander.give(x, Lander.frameOf(other, 16, 0, 0, 1, 0)), 1);
             Due.equal("not looked at for " + other, x.report(), 0);
         }
-        RelayOrbiter x = Lander.hailed();
+        Craft x = Lander.hailed();
         Lander.give(x, Lander.frameOf(78, 0, 0, 0, Lander.packet(1, 7)));
         Due.equal("data of another", x.store(0), 0);
         Due.equal("report", x.report(), 0x8000);
     }
 
     private static void wrongCalls() {
-        RelayOrbiter x = Lander.hailed();
+        Craft x = Lander.hailed();
         Due.badArgument("receive(0, 0)", () -> x.receive(0, 0));
         Due.badArgument("receive(0, 5)", () -> x.receive(0, 5));
         Due.badArgument("receive(0, -1)", () -> x.receive(0, -1));

@@ -110,21 +110,29 @@ final class Lander {
         return frame(quality | SEGMENT, 0, number, join(row(header), part));
     }
 
-    /** Hands bytes over, four a call: how many frames were taken. */
-    static int give(RelayOrbiter orbiter, int... bytes) {
+    /** Hands bytes over, four a call, as far as power lasts: how many frames were taken. */
+    static int give(Craft orbiter, int... bytes) {
         int taken = 0;
-        for (int from = 0; from < bytes.length && !orbiter.out(); from += 4) {
-            int n = Math.min(4, bytes.length - from);
-            int word = 0;
-            for (int k = 0; k < n; k++) {
-                word = word << 8 | bytes[from + k];
+        try {
+            for (int from = 0; from < bytes.length; from += 4) {
+                int n = Math.min(4, bytes.length - from);
+                taken += orbiter.receive(wordOf(part(bytes, from, from + n)), n);
             }
-            taken += orbiter.receive(word, n);
+        } catch (UnsupportedOperationException e) {
+            // It is out: the rest is lost.
         }
         return taken;
     }
 
-    static int giveOneByOne(RelayOrbiter orbiter, int... bytes) {
+    static int wordOf(int... bytes) {
+        int word = 0;
+        for (int b : bytes) {
+            word = word << 8 | b;
+        }
+        return word;
+    }
+
+    static int giveOneByOne(Craft orbiter, int... bytes) {
         int taken = 0;
         for (int b : bytes) {
             taken += orbiter.receive(b, 1);
@@ -132,10 +140,44 @@ final class Lander {
         return taken;
     }
 
+    /** Packets of 7 bytes, one behind the other. */
+    static int[] sevens(int apid, int count) {
+        int[] all = new int[0];
+        for (int k = 0; k < count; k++) {
+            all = join(all, packet(apid, 7));
+        }
+        return all;
+    }
+
+    /** Packets of 7 bytes, of one block each: expedited, eight to a frame, for that takes few calls. */
+    static void fill(Craft orbiter, int apid, int count) {
+        for (int left = count; left > 0; left -= 8) {
+            give(orbiter, expedited(sevens(apid, Math.min(8, left))));
+        }
+    }
+
+    /** A packet of up to 60 bytes by two expedited segments of stream 3. */
+    static void giveInTwo(Craft orbiter, int... packet) {
+        int half = packet.length / 2;
+        give(orbiter, segment(EXPEDITED, 0, FIRST | 3, part(packet, 0, half)));
+        give(orbiter, segment(EXPEDITED, 0, LAST | 3, part(packet, half, packet.length)));
+    }
+
     /** An orbiter whose session is on, on channel 0. */
-    static RelayOrbiter hailed() {
-        RelayOrbiter orbiter = new RelayOrbiter();
+    static Craft hailed() {
+        Craft orbiter = new Craft();
         give(orbiter, hail(0));
+        return orbiter;
+    }
+
+    /** An orbiter that is out, with a packet of APID 2 in the store and a frame sent. */
+    static Craft outOfPower() {
+        Craft orbiter = hailed();
+        fill(orbiter, 2, 1);
+        orbiter.send(1);
+        orbiter.fail(1);
+        fill(orbiter, 4, 1);
+        Due.isTrue("it is out", orbiter.out());
         return orbiter;
     }
 }

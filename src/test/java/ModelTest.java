@@ -3,12 +3,15 @@ import java.util.Random;
 
 /** Promises 5 to 14 at once: long runs of calls, made by fixed seeds, against the model's answers. */
 public final class ModelTest {
-    private static final int RUNS = 400;
-    private static final int STEPS = 160;
+    private static final int RUNS = 6000;
+    /** So many calls are kept for a last look. */
+    private static final int LAST_LOOK = 120;
+    /** No step takes more: 81 bytes in words of one to four, what is asked, and some. */
+    private static final int DEAREST_STEP = 100;
 
     private final Random random;
     private final String name;
-    private final RelayOrbiter x = new RelayOrbiter();
+    private final Craft x = new Craft();
     private final Model model = new Model();
     private final int channel;
     private int minute = 0;
@@ -29,9 +32,10 @@ public final class ModelTest {
 
     private void run() {
         // Few sends fill the store, many fill the journal.
-        int sendsOfTen = random.nextInt(6);
-        hand(Lander.hail(channel));
-        for (int step = 0; step < STEPS; step++) {
+        int sendsOfTen = random.nextInt(8);
+        int shortest = random.nextInt(3) == 0 ? 1 : 4;
+        hand(shortest, Lander.hail(channel));
+        while (x.callsLeft() > LAST_LOOK + DEAREST_STEP) {
             if (model.out) {
                 refusesWhileOut();
                 power();
@@ -48,12 +52,15 @@ public final class ModelTest {
                 int to = random.nextInt(2);
                 Due.equal(name + " send", x.send(to), model.send(to));
             } else {
-                hand(someBytes());
+                hand(shortest, someBytes());
             }
-            minute++;
-            x.minute(1);
-            compare(name + ", step " + step);
+            if (random.nextInt(8) == 0) {
+                minute++;
+                Due.equal(name + " minute", x.minute(1), minute);
+            }
+            ask(random.nextInt(4));
         }
+        compareAll(name + " at last");
     }
 
     private void refusesWhileOut() {
@@ -66,24 +73,24 @@ public final class ModelTest {
     private void power() {
         Due.equal(name + " power", x.power(), model.power());
         if (random.nextInt(8) > 0) {
-            hand(Lander.hail(channel));
+            hand(4, Lander.hail(channel));
         }
     }
 
-    private void hand(int... bytes) {
+    private void hand(int shortest, int... bytes) {
         boolean seen = (minute + 1) % period < 1;
         int from = 0;
         while (from < bytes.length && !model.out) {
-            int n = Math.min(1 + random.nextInt(4), bytes.length - from);
+            int n = Math.min(shortest + random.nextInt(5 - shortest), bytes.length - from);
             int word = random.nextInt();
             for (int k = 0; k < n; k++) {
                 word = word << 8 | bytes[from + k];
             }
             int want = model.receive(seen, Lander.part(bytes, from, from + n));
             Due.equal(name + " receive", x.receive(word, n), want);
-            Due.equal(name + " out", x.out() ? 1 : 0, model.out ? 1 : 0);
             from += n;
         }
+        Due.equal(name + " out", x.out() ? 1 : 0, model.out ? 1 : 0);
     }
 
     private int[] someBytes() {
@@ -173,37 +180,91 @@ public final class ModelTest {
         }
     }
 
-    private void compare(String what) {
+    private void ask(int questions) {
         List<Model.Entry> there = model.packets();
-        Due.equal(what + " out", x.out() ? 1 : 0, model.out ? 1 : 0);
-        Due.equal(what + " packets", x.store(0), there.size());
-        Due.equal(what + " free", x.store(1), model.freeBlocks().size());
-        Due.equal(what + " entries", x.store(2), model.journal.size());
-        Due.equal(what + " writes", x.store(3), model.writes);
-        if (!model.out) {
-            Due.equal(what + " report", x.report(), model.report());
-        }
-        for (int i = 0; i < there.size() && i < x.store(0); i++) {
-            comparePacket(what + ", packet " + i, i, there.get(i));
-        }
-        if (model.sent != null) {
-            for (int i = 0; i < 32; i++) {
-                Due.equal(what + " sent " + i, x.sent(i), model.sent[i]);
+        for (int k = 0; k < questions; k++) {
+            int i = random.nextInt(there.size() + 1);
+            switch (random.nextInt(5)) {
+                case 0:
+                    compareStore(name, random.nextInt(4), there);
+                    break;
+                case 1:
+                    compareReport(name);
+                    break;
+                case 2:
+                    compareSent(name, random.nextInt(32));
+                    break;
+                case 3:
+                    comparePacket(name, i, random.nextInt(5), there);
+                    break;
+                default:
+                    compareContent(name, i, random.nextInt(60), there);
+                    break;
             }
         }
-        Due.badIndex(what + " packet behind the last", () -> x.packet(there.size(), 0));
     }
 
-    private void comparePacket(String what, int i, Model.Entry want) {
-        int[] bytes = want.bytes();
-        Due.equal(what + " number", x.packet(i, 0), want.number());
-        Due.equal(what + " length", x.packet(i, 1), bytes.length);
-        Due.equal(what + " APID", x.packet(i, 2), bytes[0] % 8 * 256 + bytes[1]);
-        Due.equal(what + " block", x.packet(i, 3), want.blocks().get(0));
-        Due.equal(what + " emitted", x.packet(i, 4), model.emitted.getOrDefault(want.number(), 0));
-        for (int k = 0; k < bytes.length; k++) {
-            Due.equal(what + " byte " + k, x.content(i, k), model.content(want, k));
-            Due.equal(what + " byte " + k + " as it came", x.content(i, k), bytes[k]);
+    /** As far as the calls last; what tells most comes first. */
+    private void compareAll(String what) {
+        List<Model.Entry> there = model.packets();
+        for (int of = 0; of < 4; of++) {
+            compareStore(what, of, there);
         }
+        compareReport(what);
+        for (int i = 0; i < 32; i++) {
+            compareSent(what, i);
+        }
+        for (int k = 0; x.callsLeft() > 0 && k < 5 * there.size(); k++) {
+            comparePacket(what, k / 5, k % 5, there);
+        }
+        for (int i = 0; i <= there.size(); i++) {
+            for (int k = 0; x.callsLeft() > 0 && k <= 60; k++) {
+                compareContent(what, i, k, there);
+            }
+        }
+    }
+
+    private void compareStore(String what, int of, List<Model.Entry> there) {
+        int[] want = {there.size(), model.freeBlocks().size(), model.journal.size(), model.writes};
+        Due.equal(what + " store " + of, x.store(of), want[of]);
+    }
+
+    private void compareReport(String what) {
+        if (model.out) {
+            Due.unsupported(what + " report", x::report);
+        } else {
+            Due.equal(what + " report", x.report(), model.report());
+        }
+    }
+
+    private void compareSent(String what, int i) {
+        if (model.sent == null) {
+            Due.badIndex(what + " sent " + i, () -> x.sent(i));
+        } else {
+            Due.equal(what + " sent " + i, x.sent(i), model.sent[i]);
+        }
+    }
+
+    private void comparePacket(String what, int i, int of, List<Model.Entry> there) {
+        if (i >= there.size()) {
+            Due.badIndex(what + " packet " + i, () -> x.packet(i, of));
+            return;
+        }
+        Model.Entry packet = there.get(i);
+        int[] bytes = packet.bytes();
+        int emitted = model.emitted.getOrDefault(packet.number(), 0);
+        int apid = bytes[0] % 8 * 256 + bytes[1];
+        int[] want = {packet.number(), bytes.length, apid, packet.blocks().get(0), emitted};
+        Due.equal(what + " packet " + i + " " + of, x.packet(i, of), want[of]);
+    }
+
+    private void compareContent(String what, int i, int k, List<Model.Entry> there) {
+        if (i >= there.size() || k >= there.get(i).bytes().length) {
+            Due.badIndex(what + " content " + i + " " + k, () -> x.content(i, k));
+            return;
+        }
+        Model.Entry packet = there.get(i);
+        Due.equal("the model's block", model.content(packet, k), packet.bytes()[k]);
+        Due.equal(what + " content " + i + " " + k, x.content(i, k), packet.bytes()[k]);
     }
 }

@@ -21,15 +21,15 @@ public final class SegmentsTest {
         Due.end();
     }
 
-    private static void segment(RelayOrbiter x, int number, int header, int... part) {
+    private static void segment(Craft x, int number, int header, int... part) {
         Lander.give(x, Lander.segment(Lander.SEQUENCED, number, header, part));
     }
 
-    private static void expedited(RelayOrbiter x, int header, int... part) {
+    private static void expedited(Craft x, int header, int... part) {
         Lander.give(x, Lander.segment(Lander.EXPEDITED, 0, header, part));
     }
 
-    private static void contentIs(String what, RelayOrbiter x, int i, int... want) {
+    private static void contentIs(String what, Craft x, int i, int... want) {
         Due.equal(what + ": length", x.packet(i, 1), want.length);
         for (int k = 0; k < want.length; k++) {
             Due.equal(what + ": byte " + k, x.content(i, k), want[k]);
@@ -38,7 +38,7 @@ public final class SegmentsTest {
 
     private static void threeParts() {
         for (int stream = 0; stream < 4; stream++) {
-            RelayOrbiter x = Lander.hailed();
+            Craft x = Lander.hailed();
             segment(x, 0, Lander.FIRST | stream, Lander.part(PACKET, 0, 25));
             expedited(x, Lander.MIDDLE | stream, Lander.part(PACKET, 25, 31));
             Due.equal("not yet", x.store(0), 0);
@@ -52,7 +52,7 @@ public final class SegmentsTest {
     }
 
     private static void wholeOnes() {
-        RelayOrbiter x = Lander.hailed();
+        Craft x = Lander.hailed();
         segment(x, 0, Lander.WHOLE | 2, Lander.part(PACKET, 0, 58));
         Due.equal("cut off", x.store(0), 0);
         segment(x, 1, Lander.WHOLE | 2, Lander.packet(9, 58));
@@ -67,7 +67,7 @@ public final class SegmentsTest {
     }
 
     private static void streamsAreApart() {
-        RelayOrbiter x = Lander.hailed();
+        Craft x = Lander.hailed();
         for (int s = 0; s < 4; s++) {
             segment(x, s, Lander.FIRST | s, Lander.part(Lander.packet(40 + s, 20), 0, 5 + s));
         }
@@ -82,7 +82,7 @@ public final class SegmentsTest {
 
     private static void otherStreams() {
         for (int s = 4; s < 64; s++) {
-            RelayOrbiter x = Lander.hailed();
+            Craft x = Lander.hailed();
             segment(x, 0, Lander.FIRST | s % 4, Lander.part(PACKET, 0, 30));
             segment(x, 1, Lander.WHOLE | s, Lander.packet(1, 7));
             Due.equal("stream " + s, x.store(0), 0);
@@ -93,7 +93,7 @@ public final class SegmentsTest {
     }
 
     private static void goingOnWithoutBeginning() {
-        RelayOrbiter x = Lander.hailed();
+        Craft x = Lander.hailed();
         segment(x, 0, Lander.MIDDLE, Lander.part(PACKET, 0, 30));
         segment(x, 1, Lander.LAST, Lander.part(PACKET, 30, 60));
         segment(x, 2, Lander.LAST, Lander.packet(1, 7));
@@ -102,7 +102,7 @@ public final class SegmentsTest {
     }
 
     private static void beginningAnew() {
-        RelayOrbiter x = Lander.hailed();
+        Craft x = Lander.hailed();
         segment(x, 0, Lander.FIRST, Lander.part(PACKET, 0, 30));
         segment(x, 1, Lander.FIRST, Lander.part(Lander.packet(4, 12), 0, 6));
         segment(x, 2, Lander.LAST, Lander.part(Lander.packet(4, 12), 6, 12));
@@ -110,7 +110,7 @@ public final class SegmentsTest {
     }
 
     private static void sixtyBytes() {
-        RelayOrbiter x = Lander.hailed();
+        Craft x = Lander.hailed();
         segment(x, 0, Lander.FIRST, Lander.part(PACKET, 0, 58));
         segment(x, 1, Lander.MIDDLE, Lander.part(PACKET, 58, 60));
         segment(x, 2, Lander.LAST);
@@ -127,7 +127,7 @@ public final class SegmentsTest {
     }
 
     private static void partsThatAreNoPacket() {
-        RelayOrbiter x = Lander.hailed();
+        Craft x = Lander.hailed();
         segment(x, 0, Lander.FIRST, Lander.part(PACKET, 0, 30));
         segment(x, 1, Lander.LAST, Lander.part(PACKET, 30, 59));
         Due.equal("too short", x.store(0), 0);
@@ -144,7 +144,7 @@ public final class SegmentsTest {
     }
 
     private static void emptyParts() {
-        RelayOrbiter x = Lander.hailed();
+        Craft x = Lander.hailed();
         segment(x, 0, Lander.FIRST);
         segment(x, 1, Lander.MIDDLE, Lander.packet(3, 20));
         segment(x, 2, Lander.MIDDLE);
@@ -162,7 +162,7 @@ public final class SegmentsTest {
     }
 
     private static void forgottenByHailAndPower() {
-        RelayOrbiter x = Lander.hailed();
+        Craft x = Lander.hailed();
         segment(x, 0, Lander.FIRST | 3, Lander.part(PACKET, 0, 30));
         Lander.give(x, Lander.hail(0));
         segment(x, 0, Lander.LAST | 3, Lander.part(PACKET, 30, 60));
@@ -178,8 +178,8 @@ public final class SegmentsTest {
         Due.equal("not by set", x.store(0), 1);
     }
 
-    private static RelayOrbiter nearlyFull() {
-        RelayOrbiter x = Lander.hailed();
+    private static Craft nearlyFull() {
+        Craft x = Lander.hailed();
         for (int k = 0; k < 22; k++) {
             Lander.give(x, Lander.expedited(Lander.packet(2 * k, 20)));
         }
@@ -187,7 +187,7 @@ public final class SegmentsTest {
     }
 
     private static void refusedSegments() {
-        RelayOrbiter x = nearlyFull();
+        Craft x = nearlyFull();
         segment(x, 0, Lander.FIRST, Lander.part(PACKET, 0, 30));
         segment(x, 1, Lander.LAST, Lander.part(PACKET, 30, 60));
         Due.equal("refused", x.report(), 0xA601);
@@ -199,7 +199,7 @@ public final class SegmentsTest {
     }
 
     private static void refusedWhole() {
-        RelayOrbiter x = nearlyFull();
+        Craft x = nearlyFull();
         segment(x, 0, Lander.FIRST, Lander.part(PACKET, 0, 30));
         segment(x, 1, Lander.WHOLE, Lander.packet(5, 58));
         Due.equal("refused", x.report(), 0xA601);
@@ -210,7 +210,7 @@ public final class SegmentsTest {
     }
 
     private static void expeditedWithoutRoom() {
-        RelayOrbiter x = nearlyFull();
+        Craft x = nearlyFull();
         expedited(x, Lander.FIRST, Lander.part(PACKET, 0, 30));
         expedited(x, Lander.LAST, Lander.part(PACKET, 30, 60));
         Due.equal("no room", x.store(0), 22);
@@ -220,7 +220,7 @@ public final class SegmentsTest {
     }
 
     private static void notInTurn() {
-        RelayOrbiter x = Lander.hailed();
+        Craft x = Lander.hailed();
         segment(x, 0, Lander.FIRST, Lander.part(PACKET, 0, 30));
         segment(x, 2, Lander.FIRST, Lander.part(PACKET, 0, 10));
         segment(x, 0, Lander.FIRST, Lander.part(PACKET, 0, 20));
@@ -230,7 +230,7 @@ public final class SegmentsTest {
 
     private static void otherForms() {
         for (int form = 2; form < 4; form++) {
-            RelayOrbiter x = Lander.hailed();
+            Craft x = Lander.hailed();
             int[] data = Lander.join(Lander.row(Lander.WHOLE), Lander.packet(1, 7));
             Lander.give(x, Lander.frame(form << 2, 0, 0, data));
             Lander.give(x, Lander.frame(Lander.EXPEDITED | form << 2, 0, 0, data));

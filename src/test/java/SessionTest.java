@@ -20,11 +20,11 @@ public final class SessionTest {
 
     private static void hail() {
         for (int bits = 16; bits < 64; bits += bits == 28 ? 20 : 4) {
-            RelayOrbiter x = new RelayOrbiter();
+            Craft x = new Craft();
             Lander.give(x, Lander.frame(bits, 1, 200, 1, 255, 3));
             Due.equal("hail by a directive of any quality and form, bits " + bits, x.report(), 0x9000);
         }
-        RelayOrbiter x = Lander.hailed();
+        Craft x = Lander.hailed();
         Lander.give(x, Lander.sequenced(0));
         Lander.give(x, Lander.sequenced(9));
         Lander.give(x, Lander.expedited());
@@ -37,7 +37,7 @@ public final class SessionTest {
     }
 
     private static void end() {
-        RelayOrbiter x = Lander.hailed();
+        Craft x = Lander.hailed();
         Lander.give(x, Lander.end(1));
         Due.equal("ended, from any channel", x.report(), 0);
         Lander.give(x, Lander.sequenced(0, Lander.packet(1, 7)));
@@ -47,14 +47,14 @@ public final class SessionTest {
     }
 
     private static void set() {
-        RelayOrbiter x = Lander.hailed();
+        Craft x = Lander.hailed();
         Lander.give(x, Lander.sequenced(5));
         Due.equal("flag", x.report(), 0xA000);
         Lander.give(x, Lander.set(1, 200));
         Due.equal("set on another channel", x.report(), 0xA000);
         Lander.give(x, Lander.frame(16 | 32, 0, 0, 3, 255));
         Due.equal("set", x.report(), 0x80FF);
-        RelayOrbiter y = new RelayOrbiter();
+        Craft y = new Craft();
         Lander.give(y, Lander.set(0, 9));
         Due.equal("set while off", y.report(), 0);
         Lander.give(y, Lander.hail(0));
@@ -62,7 +62,7 @@ public final class SessionTest {
     }
 
     private static void otherDirectives() {
-        RelayOrbiter x = Lander.hailed();
+        Craft x = Lander.hailed();
         Lander.give(x, Lander.sequenced(0));
         Lander.give(x, Lander.frame(16, 0, 0, 0, 0));
         Lander.give(x, Lander.frame(16, 0, 0, 4, 9));
@@ -74,7 +74,7 @@ public final class SessionTest {
     }
 
     private static void dataWithoutSession() {
-        RelayOrbiter x = new RelayOrbiter();
+        Craft x = new Craft();
         Lander.give(x, Lander.sequenced(0, Lander.packet(1, 7)));
         Lander.give(x, Lander.expedited(Lander.packet(1, 7)));
         Due.equal("no session", x.store(0), 0);
@@ -93,7 +93,7 @@ public final class SessionTest {
     private static void sequenceNumbers() {
         for (int ahead = 0; ahead < 256; ahead++) {
             for (int v = 0; v < 256; v += 85) {
-                RelayOrbiter x = Lander.hailed();
+                Craft x = Lander.hailed();
                 Lander.give(x, Lander.set(0, v));
                 Lander.give(x, Lander.sequenced((v + ahead) % 256, Lander.packet(1, 7)));
                 int want = 0x8000 + v + (ahead > 0 && ahead < 128 ? 0x2000 : 0);
@@ -101,7 +101,7 @@ public final class SessionTest {
                 Due.equal(ahead + " above " + v + ", stored", x.store(0), ahead == 0 ? 1 : 0);
             }
         }
-        RelayOrbiter x = Lander.hailed();
+        Craft x = Lander.hailed();
         Lander.give(x, Lander.sequenced(1));
         Lander.give(x, Lander.sequenced(255));
         Due.equal("an old one leaves the flag", x.report(), 0xA000);
@@ -110,14 +110,14 @@ public final class SessionTest {
     }
 
     private static void sequenceWrapsRound() {
-        RelayOrbiter x = Lander.hailed();
+        Craft x = Lander.hailed();
         Lander.give(x, Lander.set(0, 255));
         Lander.give(x, Lander.sequenced(255, Lander.packet(1, 7)));
         Due.equal("behind 255 comes 0", x.report(), 0x8000);
     }
 
     private static void expeditedCount() {
-        RelayOrbiter x = Lander.hailed();
+        Craft x = Lander.hailed();
         for (int k = 1; k <= 17; k++) {
             Lander.give(x, Lander.frame(32 | (k % 4) << 2, 0, k * 40 % 256));
             Due.equal(k + " expedited frames", x.report(), 0x8000 + k % 8 * 256);
@@ -126,7 +126,7 @@ public final class SessionTest {
 
     private static void withoutData() {
         for (int form = 0; form < 4; form++) {
-            RelayOrbiter x = Lander.hailed();
+            Craft x = Lander.hailed();
             Lander.give(x, Lander.frame(form << 2, 0, 0));
             Due.equal("V goes on without data, form " + form, x.report(), 0x8001);
             Lander.give(x, Lander.frame(form << 2, 0, 1, Lander.packet(1, 7)));
@@ -138,7 +138,7 @@ public final class SessionTest {
     }
 
     private static void packetsInAFrame() {
-        RelayOrbiter x = Lander.hailed();
+        Craft x = Lander.hailed();
         int[] eight = new int[0];
         for (int k = 0; k < 8; k++) {
             eight = Lander.join(eight, Lander.packet(k * 256 + k, 7));
@@ -167,7 +167,7 @@ public final class SessionTest {
         far[4] = 1;
         int[][] bad = {low, high, longer, far, Lander.part(good, 0, 6), Lander.part(good, 0, 9), Lander.row(8)};
         for (int k = 0; k < bad.length; k++) {
-            RelayOrbiter x = Lander.hailed();
+            Craft x = Lander.hailed();
             Lander.give(x, Lander.sequenced(0, bad[k]));
             Due.equal("no packet, " + k, x.store(0), 0);
             Due.equal("V goes on, " + k, x.report(), 0x8001);
@@ -176,13 +176,13 @@ public final class SessionTest {
             Due.equal("V goes on, " + k, x.report(), 0x8002);
             Due.equal("no write for what counts for nothing", x.store(3), 2);
         }
-        RelayOrbiter x = Lander.hailed();
+        Craft x = Lander.hailed();
         Lander.give(x, Lander.expedited(Lander.join(good, low, good)));
         Due.equal("from the first that is none on nothing counts", x.store(0), 1);
     }
 
-    private static RelayOrbiter withFree(int blocks) {
-        RelayOrbiter x = Lander.hailed();
+    private static Craft withFree(int blocks) {
+        Craft x = Lander.hailed();
         for (int k = 0; k < 24 - blocks; k++) {
             Lander.give(x, Lander.sequenced(k, Lander.packet(2 * k, 20)));
         }
@@ -192,7 +192,7 @@ public final class SessionTest {
 
     private static void refusedForRoom() {
         int[] three = Lander.join(Lander.packet(1, 20), Lander.packet(3, 21));
-        RelayOrbiter x = withFree(2);
+        Craft x = withFree(2);
         int writes = x.store(3);
         Lander.give(x, Lander.sequenced(22, three));
         Due.equal("refused whole", x.store(0), 22);
@@ -211,13 +211,13 @@ public final class SessionTest {
         Due.equal("one was sent", x.store(1), 1);
         Lander.give(x, Lander.sequenced(24, Lander.packet(1, 7)));
         Due.equal("then there is room", x.report(), 0x8000 + 25);
-        RelayOrbiter y = withFree(3);
+        Craft y = withFree(3);
         Lander.give(y, Lander.sequenced(21, three));
         Due.equal("as many free blocks as are needed", y.store(0), 23);
     }
 
     private static void expeditedAsFarAsThereIsRoom() {
-        RelayOrbiter x = withFree(2);
+        Craft x = withFree(2);
         Lander.give(x, Lander.expedited(Lander.join(Lander.packet(1, 20), Lander.packet(3, 21))));
         Due.equal("the first only", x.store(0), 23);
         Due.equal("it counts, and makes no flag", x.report(), 0x8100 + 22);
@@ -230,7 +230,7 @@ public final class SessionTest {
     }
 
     private static void reportWhileOut() {
-        RelayOrbiter x = Lander.hailed();
+        Craft x = Lander.hailed();
         x.fail(1);
         Lander.give(x, Lander.sequenced(0, Lander.packet(1, 7)));
         Due.unsupported("report() while out", x::report);

@@ -17,14 +17,14 @@ public final class StoreTest {
         Due.end();
     }
 
-    private static void storeIs(String what, RelayOrbiter x, int packets, int free, int entries, int writes) {
+    private static void storeIs(String what, Craft x, int packets, int free, int entries, int writes) {
         Due.equal(what + ": packets", x.store(0), packets);
         Due.equal(what + ": free blocks", x.store(1), free);
         Due.equal(what + ": entries", x.store(2), entries);
         Due.equal(what + ": writes", x.store(3), writes);
     }
 
-    private static void expedite(RelayOrbiter x, int[]... packets) {
+    private static void expedite(Craft x, int[]... packets) {
         Lander.give(x, Lander.expedited(Lander.join(packets)));
     }
 
@@ -32,7 +32,7 @@ public final class StoreTest {
         int[] lengths = {7, 20, 21, 40, 41, 59};
         int[] blocks = {1, 1, 2, 2, 3, 3};
         for (int k = 0; k < lengths.length; k++) {
-            RelayOrbiter x = Lander.hailed();
+            Craft x = Lander.hailed();
             expedite(x, Lander.packet(5, lengths[k]));
             storeIs("one of " + lengths[k], x, 1, 24 - blocks[k], 1, blocks[k] + 1);
             Due.equal("number", x.packet(0, 0), 0);
@@ -44,7 +44,7 @@ public final class StoreTest {
     }
 
     private static void leastFreeBlocks() {
-        RelayOrbiter x = Lander.hailed();
+        Craft x = Lander.hailed();
         expedite(x, Lander.packet(2, 15), Lander.packet(3, 15));
         expedite(x, Lander.packet(5, 45));
         expedite(x, Lander.packet(4, 7));
@@ -64,7 +64,7 @@ public final class StoreTest {
     }
 
     private static void contents() {
-        RelayOrbiter x = Lander.hailed();
+        Craft x = Lander.hailed();
         expedite(x, Lander.packet(2, 15), Lander.packet(300, 33));
         for (int k = 0; k < 15; k++) {
             Due.equal("content(0, k)", x.content(0, k), Lander.packet(2, 15)[k]);
@@ -81,7 +81,7 @@ public final class StoreTest {
 
     private static void failAtEachWriteOfAStore() {
         for (int writes = 1; writes <= 4; writes++) {
-            RelayOrbiter x = Lander.hailed();
+            Craft x = Lander.hailed();
             expedite(x, Lander.packet(2, 7));
             x.fail(writes);
             Due.isFalse("not yet out", x.out());
@@ -100,7 +100,7 @@ public final class StoreTest {
     }
 
     private static void failAmidAFrame() {
-        RelayOrbiter x = Lander.hailed();
+        Craft x = Lander.hailed();
         x.fail(3);
         Lander.give(x, Lander.sequenced(0, Lander.join(Lander.packet(2, 7), Lander.packet(3, 7))));
         storeIs("the first stands", x, 1, 23, 1, 3);
@@ -108,7 +108,7 @@ public final class StoreTest {
         Due.equal("report", x.report(), 0);
         Due.equal("APID", x.packet(0, 2), 2);
         Due.equal("content", x.content(0, 6), Lander.packet(2, 7)[6]);
-        RelayOrbiter y = Lander.hailed();
+        Craft y = Lander.hailed();
         y.fail(5);
         Lander.give(y, Lander.sequenced(0, Lander.join(Lander.packet(2, 7), Lander.packet(3, 7))));
         Due.isFalse("one write is left", y.out());
@@ -118,8 +118,8 @@ public final class StoreTest {
     }
 
     /** Two packets stay, of one block each; the journal is full, behind 61 writes. */
-    private static RelayOrbiter withFullJournal() {
-        RelayOrbiter x = Lander.hailed();
+    private static Craft withFullJournal() {
+        Craft x = Lander.hailed();
         expedite(x, Lander.packet(1, 7), Lander.packet(3, 7));
         for (int k = 0; k < 19; k++) {
             expedite(x, Lander.packet(2, 7));
@@ -130,12 +130,12 @@ public final class StoreTest {
     }
 
     private static void failAtJournalRenewal() {
-        RelayOrbiter x = withFullJournal();
+        Craft x = withFullJournal();
         expedite(x, Lander.packet(2, 7));
         storeIs("block, journal, entry", x, 3, 21, 3, 61 + 3);
         int[] entries = {40, 2, 3};
         for (int writes = 1; writes <= 3; writes++) {
-            RelayOrbiter y = withFullJournal();
+            Craft y = withFullJournal();
             y.fail(writes);
             expedite(y, Lander.packet(2, 7));
             Due.isTrue("out behind " + writes, y.out());
@@ -148,10 +148,10 @@ public final class StoreTest {
     }
 
     private static void failAtRenewalBeforeADrop() {
-        RelayOrbiter x = withFullJournal();
+        Craft x = withFullJournal();
         x.send(1);
         storeIs("journal, two entries", x, 0, 24, 4, 61 + 3);
-        RelayOrbiter y = withFullJournal();
+        Craft y = withFullJournal();
         y.fail(1);
         Due.equal("sent", y.send(1), 0);
         storeIs("only the journal", y, 2, 22, 2, 61 + 1);
@@ -162,7 +162,7 @@ public final class StoreTest {
     }
 
     private static void journalIsRenewedOnlyWhenNeeded() {
-        RelayOrbiter x = Lander.hailed();
+        Craft x = Lander.hailed();
         for (int k = 0; k < 24; k++) {
             expedite(x, Lander.packet(2 * k + 1, 20));
         }
@@ -179,7 +179,7 @@ public final class StoreTest {
     }
 
     private static void numbersAreNeverUsedAgain() {
-        RelayOrbiter x = Lander.hailed();
+        Craft x = Lander.hailed();
         for (int k = 0; k < 50; k++) {
             expedite(x, Lander.packet(2, 7));
             Due.equal("number", x.packet(0, 0), k);
@@ -192,7 +192,7 @@ public final class StoreTest {
     }
 
     private static void failIsSetAnew() {
-        RelayOrbiter x = Lander.hailed();
+        Craft x = Lander.hailed();
         x.fail(1);
         x.fail(3);
         expedite(x, Lander.packet(2, 7));
@@ -210,7 +210,7 @@ public final class StoreTest {
     }
 
     private static void framesLostWhenPowerFails() {
-        RelayOrbiter x = Lander.hailed();
+        Craft x = Lander.hailed();
         int[] inner = Lander.join(Lander.sequenced(0, Lander.packet(2, 7)), Lander.sequenced(1, Lander.packet(4, 7)));
         int[] bad = Lander.frame(0, 0, 0, inner);
         bad[bad.length - 1] ^= 1;
@@ -225,7 +225,7 @@ public final class StoreTest {
         Due.equal("bytes behind it are lost", x.report(), 0);
         Due.equal("and a whole frame", Lander.give(x, hail), 1);
         Due.equal("is taken", x.report(), 0x8000);
-        RelayOrbiter y = new RelayOrbiter();
+        Craft y = new Craft();
         Lander.give(y, Lander.part(hail, 0, 9));
         y.power();
         Lander.give(y, Lander.part(hail, 9, hail.length));
@@ -233,7 +233,7 @@ public final class StoreTest {
     }
 
     private static void powerThatWasNotGone() {
-        RelayOrbiter x = Lander.hailed();
+        Craft x = Lander.hailed();
         expedite(x, Lander.packet(2, 50));
         x.send(0);
         Due.equal("emitted", x.packet(0, 4), 22);
@@ -250,7 +250,7 @@ public final class StoreTest {
     }
 
     private static void wrongCalls() {
-        RelayOrbiter x = Lander.hailed();
+        Craft x = Lander.hailed();
         Due.badArgument("fail(0)", () -> x.fail(0));
         Due.badArgument("fail(-1)", () -> x.fail(-1));
         Due.badArgument("fail(101)", () -> x.fail(101));

@@ -13,7 +13,7 @@ public final class WindowsTest {
     }
 
     private static void newObject() {
-        RelayOrbiter x = new RelayOrbiter();
+        Craft x = new Craft();
         Due.isTrue("new seen(0)", x.seen(0));
         Due.isTrue("new seen(1)", x.seen(1));
         Due.isFalse("new out()", x.out());
@@ -32,7 +32,7 @@ public final class WindowsTest {
     }
 
     private static void powerIsNotAboutToFail() {
-        RelayOrbiter x = Lander.hailed();
+        Craft x = Lander.hailed();
         for (int k = 0; k < 60; k++) {
             Lander.give(x, Lander.sequenced(k, Lander.packet(2, 7)));
             x.send(0);
@@ -43,7 +43,7 @@ public final class WindowsTest {
 
     private static void windowsOpenAndClose() {
         for (int which = 0; which < 2; which++) {
-            RelayOrbiter x = new RelayOrbiter();
+            Craft x = new Craft();
             x.window(which, 3, 7, 2);
             for (int m = 0; m < 30; m++) {
                 Due.equal("seen(" + which + ") in minute " + m, x.seen(which) ? 1 : 0, (m + 3) % 7 < 2 ? 1 : 0);
@@ -53,7 +53,7 @@ public final class WindowsTest {
     }
 
     private static void windowsAreApart() {
-        RelayOrbiter x = new RelayOrbiter();
+        Craft x = new Craft();
         x.window(0, 0, 1, 0);
         Due.isFalse("lander's window closed", x.seen(0));
         Due.isTrue("Earth's window still open", x.seen(1));
@@ -71,7 +71,7 @@ public final class WindowsTest {
 
     private static void greatNumbers() {
         int most = Integer.MAX_VALUE;
-        RelayOrbiter x = new RelayOrbiter();
+        Craft x = new Craft();
         x.window(0, most, most, 1);
         Due.isTrue("shift equals period", x.seen(0));
         x.minute(1);
@@ -85,7 +85,7 @@ public final class WindowsTest {
     }
 
     private static void wrongWindows() {
-        RelayOrbiter x = new RelayOrbiter();
+        Craft x = new Craft();
         x.window(0, 0, 1, 0);
         Due.badArgument("window(-1, ..)", () -> x.window(-1, 0, 1, 1));
         Due.badArgument("window(2, ..)", () -> x.window(2, 0, 1, 1));
@@ -97,7 +97,7 @@ public final class WindowsTest {
     }
 
     private static void minutes() {
-        RelayOrbiter x = new RelayOrbiter();
+        Craft x = new Craft();
         Due.equal("minute(1000)", x.minute(1000), 1000);
         Due.badArgument("minute(0)", () -> x.minute(0));
         Due.badArgument("minute(-1)", () -> x.minute(-1));
@@ -108,7 +108,7 @@ public final class WindowsTest {
     }
 
     private static void clockGoesOnWhileOut() {
-        RelayOrbiter x = Lander.hailed();
+        Craft x = Lander.hailed();
         x.minute(5);
         x.fail(1);
         Lander.give(x, Lander.sequenced(0, Lander.packet(0, 7)));
@@ -121,7 +121,7 @@ public final class WindowsTest {
     }
 
     private static void wrongWhich() {
-        RelayOrbiter x = new RelayOrbiter();
+        Craft x = new Craft();
         Due.badArgument("seen(-1)", () -> x.seen(-1));
         Due.badArgument("seen(2)", () -> x.seen(2));
     }
