@@ -1,3 +1,5 @@
+import java.util.function.Predicate;
+
 /** Terms: the link from the lander, where frames are found in a row of bytes. */
 public final class LanderLinkSentencesTest {
     public static void main(String[] args) {
@@ -249,6 +251,25 @@ public final class LanderLinkSentencesTest {
         Due.equal("two of the greatest length", takenOf(Lander.join(frameOf(64), frameOf(64))), 2);
         int[] outer = Lander.frame(0, 0, 0, Lander.join(frameOf(5), frameOf(5), frameOf(5), frameOf(5)));
         Due.equal("frames inside of one are not looked for", takenOf(Lander.join(outer, frameOf(5))), 2);
+        // Its data end with a mark and a byte; with its check they would begin a frame of over 40 bytes.
+        int[] tail = withCheck(c -> (c[1] & 7) == 0 && c[2] >= 40 && c[2] < 64, 250, 243, 32, 128);
+        Due.same("nor one that begins in its data and would go on behind it",
+            takenByEach(Lander.join(tail, Lander.hail(0))),
+            "0".repeat(tail.length - 1) + "1" + "0".repeat(13) + "1");
+        // Its check ends as a mark begins.
+        int[] begun = withCheck(c -> c[3] == 250);
+        Due.equal("nor one that begins in its check", takenOf(Lander.join(begun, Lander.part(Lander.hail(0), 1, 14))), 1);
+    }
+
+    /** A frame whose data end so, and whose check is as wanted. */
+    private static int[] withCheck(Predicate<int[]> wanted, int... end) {
+        for (int k = 0; k < 65536; k++) {
+            int[] row = Lander.frame(0, 0, k / 256, Lander.join(Lander.row(k % 256, 0, 0, 0), end));
+            if (wanted.test(Lander.part(row, row.length - 4, row.length))) {
+                return row;
+            }
+        }
+        throw new IllegalStateException("there is none");
     }
 
     private static void goesOnBehindTheMarksFirstByte() {

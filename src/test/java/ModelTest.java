@@ -14,6 +14,8 @@ public final class ModelTest {
     private final Craft x = new Craft();
     private final Model model = new Model();
     private final int channel;
+    /** Short packets, many to a frame, sent at once: so the journal is full now and then. */
+    private final boolean hasty;
     private int minute = 0;
     private int period = 1;
 
@@ -21,6 +23,7 @@ public final class ModelTest {
         random = new Random(seed);
         name = "seed " + seed;
         channel = seed % 2;
+        hasty = seed % 3 == 0;
     }
 
     public static void main(String[] args) {
@@ -31,9 +34,9 @@ public final class ModelTest {
     }
 
     private void run() {
-        // Few sends fill the store, many fill the journal.
-        int sendsOfTen = random.nextInt(8);
-        int shortest = random.nextInt(3) == 0 ? 1 : 4;
+        // Few sends fill the store.
+        int sendsOfTen = hasty ? 7 : random.nextInt(8);
+        int shortest = !hasty && random.nextInt(3) == 0 ? 1 : 4;
         hand(shortest, Lander.hail(channel));
         while (x.callsLeft() > LAST_LOOK + DEAREST_STEP) {
             if (model.out) {
@@ -42,7 +45,7 @@ public final class ModelTest {
             } else if (random.nextInt(60) == 0) {
                 power();
             } else if (random.nextInt(25) == 0) {
-                int writes = 1 + random.nextInt(12);
+                int writes = 1 + random.nextInt(hasty ? 100 : 12);
                 x.fail(writes);
                 model.failAt = model.writes + writes;
             } else if (random.nextInt(40) == 0) {
@@ -58,7 +61,7 @@ public final class ModelTest {
                 minute++;
                 Due.equal(name + " minute", x.minute(1), minute);
             }
-            ask(random.nextInt(4));
+            ask(hasty ? 0 : random.nextInt(4));
         }
         compareAll(name + " at last");
     }
@@ -130,6 +133,9 @@ public final class ModelTest {
         if (kind == 3) {
             int[] data = random.nextBoolean() ? someSegment() : somePackets();
             return Lander.frame(quality | anyForm(), to, number, data);
+        }
+        if (hasty) {
+            return Lander.frame(quality, to, number, Lander.sevens(random.nextInt(2048), 1 + random.nextInt(8)));
         }
         if (kind < 13) {
             return Lander.frame(quality | Lander.SEGMENT, to, number, someSegment());

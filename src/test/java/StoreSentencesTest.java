@@ -63,6 +63,10 @@ public final class StoreSentencesTest {
                 Due.equal("byte " + k + " of " + length, x.content(0, k), packet[k]);
             }
         }
+        Craft late = Lander.hailed();
+        Lander.give(late, Lander.expedited(Lander.join(Lander.packet(2, 38), Lander.packet(4, 21))));
+        storeIs("one of 21 at the end of the greatest data", late, 2, 20, 2, 6);
+        Due.equal("its last byte, alone in a block", late.content(1, 20), Lander.packet(4, 21)[20]);
         Craft x = Lander.hailed();
         for (int k = 0; k < 8; k++) {
             Lander.giveInTwo(x, Lander.packet(2 * k, 60));

@@ -319,6 +319,15 @@ public final class TakenFrameSentencesTest {
             Due.equal("cut off behind " + length, x.store(0), 1);
             Due.equal("V goes on", x.report(), 0x8001);
         }
+        for (int length = 52; length < 59; length++) {
+            Craft x = Lander.hailed();
+            int[] begun = Lander.part(Lander.packet(4, 8), 0, 59 - length);
+            Lander.give(x, Lander.sequenced(0, Lander.join(Lander.packet(2, length), begun)));
+            Due.equal("one of " + length + ", and one begun up to the end of the greatest data", x.store(0), 1);
+        }
+        Craft eight = Lander.hailed();
+        Lander.give(eight, Lander.sequenced(0, Lander.join(Lander.sevens(2, 8), Lander.part(good, 0, 3))));
+        Due.equal("eight, and one begun", eight.store(0), 8);
         int[] longer = Lander.packet(2, 8);
         longer[5] = 2;
         int[][] none = {{0}, {7, 0, 0, 0, 0, 0, 0}, {16, 0, 0, 0, 0, 0, 0}, longer, Lander.part(longer, 0, 7)};
